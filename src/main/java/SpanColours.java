@@ -324,7 +324,7 @@ public final class SpanColours {
   }
 
   public int tally(int l, int r, int t) {
-    return t >= 1 && readSpan(l, r) ? palette.kindsFrom(t) - palette.kindsAbove(t) : NONE;
+    return t >= 1 && readSpan(l, r) ? palette.kindsOfJust(t) : NONE;
   }
 
   public int major(int l, int r) {
@@ -867,10 +867,10 @@ public final class SpanColours {
       return found;
     }
 
-    int kindsAbove(int t) {
+    int kindsOfJust(int t) {
       int found = 0;
       for (int colour = 0; colour < COLOURS; colour++) {
-        if (counts[colour] > t) {
+        if (counts[colour] == t) {
           found++;
         }
       }

@@ -722,6 +722,11 @@ public final class PromiseTest {
     due("far off", x.suffices(MAX, 1), 1);
     due("below 0", x.suffices(-1, 0), NONE);
     due("another rule", x.suffices(9, 2), NONE);
+    SpanColours wide = of("abcdefghijklmnopqrstuvwxabcdefghijklmnopqrstuvwx");
+    due("rule 0, all 24", wide.suffices(24, 0), 24);
+    due("rule 0, all 24", wide.suffices(47, 0), 24);
+    due("rule 1, all 24", wide.suffices(24, 1), 24);
+    due("rule 1, one fewer", wide.suffices(25, 1), 23);
   }
 
   private static void allSpans() {
