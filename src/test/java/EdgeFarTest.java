@@ -144,6 +144,9 @@ public final class EdgeFarTest extends Bench {
       tells(of("axa"), both[w], x -> x.window(bits("ax"), w));
       tells(of("axa"), last[w], x -> x.window(1 << 23, w));
     }
+    tells(of("ccabccba"), 2, x -> x.window(bits("ab"), 0));
+    tells(of("ccabccba"), 3, x -> x.window(bits("ab"), 1));
+    tells(of("acbcccba"), 6, x -> x.window(bits("ab"), 0));
     tells(of("abbabca"), 3, x -> x.window(bits("abc"), 0));
     tells(of("abbabca"), 5, x -> x.window(bits("abc"), 1));
     says("with all 160, and all COLOURS");
@@ -190,6 +193,8 @@ public final class EdgeFarTest extends Bench {
       tells(of("abbc"), w == 0 ? 0 : 3, x -> x.longest(MAX, w));
       tells(of("x"), 0, x -> x.longest(1, w));
       tells(of("abc"), 0, x -> x.longest(1, w));
+      tells(of("abbccc"), w == 0 ? 3 : 5, x -> x.longest(1, w));
+      tells(of("abbccdd"), w == 0 ? 1 : 2, x -> x.longest(1, w));
       says("with all 160");
       tells(plain(), w * 159, x -> x.longest(1, w));
       tells(cycle(24), 0, x -> x.longest(1, w));
@@ -220,6 +225,8 @@ public final class EdgeFarTest extends Bench {
       tells(of("aab"), due[w], x -> x.unlike(w));
       tells(of("aaba"), due[w], x -> x.unlike(w));
       tells(of("abcc"), w * 2, x -> x.unlike(w));
+      tells(of("aabbca"), w == 0 ? 3 : 5, x -> x.unlike(w));
+      tells(of("aabba"), w == 0 ? 1 : 2, x -> x.unlike(w));
       says("with all 160");
       tells(plain(), 0, x -> x.unlike(w));
       tells(cycle(24), w * 23, x -> x.unlike(w));
@@ -455,6 +462,8 @@ public final class EdgeFarTest extends Bench {
     for (int n : new int[] {0, -1, 5, 160, 161, MIN, MAX}) {
       tells(of("aaba"), 0, x -> x.sets(n));
     }
+    tells(of("aabb"), 3, x -> x.sets(2));
+    tells(of("aabb"), 1, x -> x.sets(3));
     int[] due = {2, 2, 1, 1};
     for (int n = 1; n <= 4; n++) {
       int m = n;
@@ -539,6 +548,10 @@ public final class EdgeFarTest extends Bench {
     tells(of("aabb"), 2, x -> x.twin(1));
     tells(of("abcc"), 0, x -> x.twin(0));
     tells(of("abcc"), 2, x -> x.twin(1));
+    tells(of("aaaba"), 0, x -> x.twin(0));
+    tells(of("aaaba"), 2, x -> x.twin(1));
+    tells(of("aabaa"), 0, x -> x.twin(0));
+    tells(of("aabaa"), 2, x -> x.twin(1));
     tells(of("aabcd"), 1, x -> x.twin(0));
     tells(of("aabcd"), 3, x -> x.twin(1));
     says("with all 160");

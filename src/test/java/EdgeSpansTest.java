@@ -190,6 +190,8 @@ public final class EdgeSpansTest extends Bench {
     says("with all 160");
     tells(plain(), 160, x -> x.about(0));
     tells(plain(), 1, x -> x.about(1));
+    tells(after(plain(), x -> x.put(0, 1)), 2, x -> x.about(1));
+    tells(after(plain(), x -> x.put(159, 1)), 2, x -> x.about(1));
     tells(cycle(24), 24, x -> x.about(1));
     tells(plain(), 160, x -> x.about(2));
     tells(plain(), 1, x -> x.about(3));
@@ -566,6 +568,9 @@ public final class EdgeSpansTest extends Bench {
     tells(of("aaab"), 1, x -> x.cover(0, 2));
     tells(of("aaab"), 4, x -> x.cover(0, 3));
     tells(of("baaa"), 4, x -> x.cover(0, 3));
+    tells(of("abbb"), 4, x -> x.cover(0, 3));
+    tells(of("bbba"), 4, x -> x.cover(0, 3));
+    tells(of("xaaa"), 4, x -> x.cover(0, 3));
     tells(of("abba"), 3, x -> x.cover(0, 3));
     tells(of("abbba"), 4, x -> x.cover(0, 4));
     says("with all 160");

@@ -80,10 +80,41 @@ class Bench {
     due(call.on(maker.make()), want);
   }
 
-  /** A question: its answer, and that nothing happened. */
+  /** A question: its answer, also when others were asked ahead of it, and that nothing happened. */
   static void tells(Maker maker, long want, Call call) {
     due(call.on(maker.make()), want);
+    due(call.on(after(maker, Bench::askAbout).make()), want);
     dueNothingHappens(maker, call);
+  }
+
+  /** Questions of every kind: what is kept for one of them must not go into the next one. */
+  private static long askAbout(SpanColours x) {
+    int r = x.about(0) - 1;
+    x.count(0, r);
+    x.report(0, r, 1, 0);
+    x.kth(0, r, 23, 0);
+    x.kth(0, r, 23, 3);
+    x.close(0, r, 0);
+    x.sides(0, r);
+    x.cover(0, r);
+    x.least(0, r, 2);
+    x.even(0, r);
+    x.apart(0, 1, 0);
+    x.reach(0, 2);
+    x.load(0, 2);
+    x.window(3, 2);
+    x.longest(2, 0);
+    x.unlike(0);
+    x.heaviest(1, 0);
+    x.misses(2, 1);
+    x.just(2);
+    x.sets(2);
+    x.match(0, r, NONE);
+    x.twin(0);
+    x.parts(1, NONE);
+    x.best(2, 0);
+    x.counted(x.about(3), 0, r);
+    return x.set(0, r);
   }
 
   /** A call that can't be: NONE, and nothing happened. */
